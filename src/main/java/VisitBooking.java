@@ -144,7 +144,7 @@ public final class VisitBooking {
 
     // ---- inmates, visitors, rooms, settings
 
-    public int addInmate(int wing, int level) {
+    public int addInmate(int wing, int level) throws IllegalArgumentException, IllegalStateException {
         if (!isBelow(wing, WINGS) || !isBelow(level, LEVELS)) {
             throw new IllegalArgumentException("the wing or the level is out of range");
         }
@@ -159,7 +159,7 @@ public final class VisitBooking {
         return state.inmates.count - 1;
     }
 
-    public int addVisitor(int kind) {
+    public int addVisitor(int kind) throws IllegalArgumentException, IllegalStateException {
         if (!isBelow(kind, KINDS_OF_VISITORS)) {
             throw new IllegalArgumentException("the kind is out of range");
         }
@@ -172,7 +172,8 @@ public final class VisitBooking {
         return state.visitors.count - 1;
     }
 
-    public int addRoom(int wing, int seats, boolean isGlass) {
+    public int addRoom(int wing, int seats, boolean isGlass)
+            throws IllegalArgumentException, IllegalStateException {
         if (!isBelow(wing, WINGS) || seats < 1 || seats > MOST_SEATS) {
             throw new IllegalArgumentException("the wing or the number of seats is out of range");
         }
@@ -188,7 +189,7 @@ public final class VisitBooking {
         return state.rooms.count - 1;
     }
 
-    public int setOpen(int room, boolean isOpen) {
+    public int setOpen(int room, boolean isOpen) throws IndexOutOfBoundsException {
         if (!isBelow(room, state.rooms.count)) {
             throw new IndexOutOfBoundsException("there is no such room");
         }
@@ -196,7 +197,7 @@ public final class VisitBooking {
         return isOpen ? desk.openRoom(room) : desk.closeRoom(room);
     }
 
-    public int setLevel(int inmate, int level) {
+    public int setLevel(int inmate, int level) throws IndexOutOfBoundsException, IllegalArgumentException {
         if (!isBelow(inmate, state.inmates.count)) {
             throw new IndexOutOfBoundsException("there is no such inmate");
         }
@@ -210,13 +211,13 @@ public final class VisitBooking {
         return previous;
     }
 
-    public int move(int inmate, int wing) {
+    public int move(int inmate, int wing) throws IndexOutOfBoundsException, IllegalArgumentException {
         throwFor(faultOfMove(inmate, wing));
         history.keep(state);
         return desk.moveInmate(inmate, wing);
     }
 
-    public int confine(int inmate, boolean isConfined) {
+    public int confine(int inmate, boolean isConfined) throws IndexOutOfBoundsException {
         if (!isBelow(inmate, state.inmates.count)) {
             throw new IndexOutOfBoundsException("there is no such inmate");
         }
@@ -224,7 +225,7 @@ public final class VisitBooking {
         return desk.confineInmate(inmate, isConfined);
     }
 
-    public int set(int what, int value) {
+    public int set(int what, int value) throws IndexOutOfBoundsException, IllegalArgumentException {
         if (!isBelow(what, SETTINGS)) {
             throw new IndexOutOfBoundsException("there is no such setting");
         }
@@ -238,7 +239,7 @@ public final class VisitBooking {
         return previous;
     }
 
-    public int inmate(int inmate, int what) {
+    public int inmate(int inmate, int what) throws IndexOutOfBoundsException, IllegalArgumentException {
         if (!isBelow(inmate, state.inmates.count)) {
             throw new IndexOutOfBoundsException("there is no such inmate");
         }
@@ -254,7 +255,7 @@ public final class VisitBooking {
         return state.countedVisits(inmate, state.today / DAYS_OF_WEEK);
     }
 
-    public int room(int room, int what) {
+    public int room(int room, int what) throws IndexOutOfBoundsException, IllegalArgumentException {
         if (!isBelow(room, state.rooms.count)) {
             throw new IndexOutOfBoundsException("there is no such room");
         }
@@ -267,7 +268,7 @@ public final class VisitBooking {
         return Long.bitCount(state.bookedWith(VISIT_ROOM, room));
     }
 
-    public int ordered(int inmate, int place) {
+    public int ordered(int inmate, int place) throws IndexOutOfBoundsException, NoSuchElementException {
         if (!isBelow(inmate, state.inmates.count)) {
             throw new IndexOutOfBoundsException("there is no such inmate");
         }
@@ -285,7 +286,8 @@ public final class VisitBooking {
 
     // ---- visits
 
-    public int book(int inmate, int visitors, int day, int slot) {
+    public int book(int inmate, int visitors, int day, int slot)
+            throws IndexOutOfBoundsException, IllegalArgumentException, UnsupportedOperationException {
         throwFor(faultOfBooking(inmate, visitors, day, slot));
         int reason = judge.reasonFor(inmate, visitors, day, slot);
         if (reason != NOT_REFUSED) {
@@ -297,19 +299,21 @@ public final class VisitBooking {
         return desk.enterVisit(inmate, visitors, day * SLOTS + slot);
     }
 
-    public int cancel(int visit) {
+    public int cancel(int visit) throws IndexOutOfBoundsException, IllegalStateException {
         throwFor(faultOfCancelling(visit));
         history.keep(state);
         desk.dropVisit(visit);
         return desk.serveWishes();
     }
 
-    public int refusal(int inmate, int visitors, int day, int slot) {
+    public int refusal(int inmate, int visitors, int day, int slot)
+            throws IndexOutOfBoundsException, IllegalArgumentException {
         throwFor(faultOfBooking(inmate, visitors, day, slot));
         return judge.reasonFor(inmate, visitors, day, slot);
     }
 
-    public int firstFree(int inmate, int visitors) {
+    public int firstFree(int inmate, int visitors)
+            throws IndexOutOfBoundsException, IllegalArgumentException, NoSuchElementException {
         if (!isBelow(inmate, state.inmates.count)) {
             throw new IndexOutOfBoundsException("there is no such inmate");
         }
@@ -323,7 +327,7 @@ public final class VisitBooking {
         return moment;
     }
 
-    public int visit(int visit, int what) {
+    public int visit(int visit, int what) throws IndexOutOfBoundsException, IllegalArgumentException {
         if (!isBelow(visit, state.visits.count)) {
             throw new IndexOutOfBoundsException("there is no such visit");
         }
@@ -339,7 +343,7 @@ public final class VisitBooking {
         return state.isForQuota(state.visits.rows[visit][VISIT_VISITORS]) ? 1 : 0;
     }
 
-    public int next(int place) {
+    public int next(int place) throws NoSuchElementException {
         long left = state.bookedVisits();
         if (!isBelow(place, Long.bitCount(left))) {
             throw new NoSuchElementException("there is no such place");
@@ -352,7 +356,7 @@ public final class VisitBooking {
         return visit;
     }
 
-    public int slot(int day, int slot, boolean isSearches) {
+    public int slot(int day, int slot, boolean isSearches) throws IllegalArgumentException {
         if (!isBelow(day, DAYS) || !isBelow(slot, SLOTS)) {
             throw new IllegalArgumentException("the day or the slot is out of range");
         }
@@ -360,7 +364,7 @@ public final class VisitBooking {
         return isSearches ? judge.placesLeft : judge.takenRooms;
     }
 
-    public int pass(int days) {
+    public int pass(int days) throws IllegalArgumentException, IllegalStateException {
         if (days < 1 || days > MOST_DAYS_AT_ONCE) {
             throw new IllegalArgumentException("the number of days is out of range");
         }
@@ -373,7 +377,8 @@ public final class VisitBooking {
 
     // ---- bans
 
-    public int ban(int kind, int inmate, int other, int first, int last) {
+    public int ban(int kind, int inmate, int other, int first, int last)
+            throws IndexOutOfBoundsException, IllegalArgumentException, IllegalStateException {
         throwFor(faultOfBan(kind, inmate, other, first, last));
         history.keep(state);
         int[] row = state.bans.addRow();
@@ -385,7 +390,7 @@ public final class VisitBooking {
         return kind == BAN_OF_PAIR ? desk.partPair(row) : desk.dropBanned(row);
     }
 
-    public int lift(int ban) {
+    public int lift(int ban) throws IndexOutOfBoundsException {
         if (!isBelow(ban, state.bans.count)) {
             throw new IndexOutOfBoundsException("there is no such ban");
         }
@@ -394,7 +399,7 @@ public final class VisitBooking {
         return desk.serveWishes();
     }
 
-    public int banned(int ban, int what) {
+    public int banned(int ban, int what) throws IndexOutOfBoundsException, IllegalArgumentException {
         if (!isBelow(ban, state.bans.count)) {
             throw new IndexOutOfBoundsException("there is no such ban");
         }
@@ -406,7 +411,8 @@ public final class VisitBooking {
 
     // ---- wishes, notices, reports
 
-    public int wish(int inmate, int visitors, int first, int last) {
+    public int wish(int inmate, int visitors, int first, int last)
+            throws IndexOutOfBoundsException, IllegalArgumentException, IllegalStateException {
         if (!isBelow(inmate, state.inmates.count)) {
             throw new IndexOutOfBoundsException("there is no such inmate");
         }
@@ -425,7 +431,7 @@ public final class VisitBooking {
         return state.wishes.count;
     }
 
-    public int wished(int wish, int what) {
+    public int wished(int wish, int what) throws IndexOutOfBoundsException, IllegalArgumentException {
         if (!isBelow(wish, state.wishes.count)) {
             throw new IndexOutOfBoundsException("there is no such wish");
         }
@@ -435,14 +441,14 @@ public final class VisitBooking {
         return state.wishes.rows[wish][what];
     }
 
-    public int notice(int notice, boolean isKind) {
+    public int notice(int notice, boolean isKind) throws NoSuchElementException {
         if (!isBelow(notice, state.notices.count)) {
             throw new NoSuchElementException("there is no such notice");
         }
         return state.notices.rows[notice][isKind ? NOTICE_KIND : NOTICE_VISIT];
     }
 
-    public int report(int level, boolean isDetail) {
+    public int report(int level, boolean isDetail) throws NoSuchElementException {
         if (!isBelow(level, refused.count)) {
             throw new NoSuchElementException("there is no such level");
         }
@@ -451,7 +457,7 @@ public final class VisitBooking {
 
     // ---- accounts
 
-    public int account(int what) {
+    public int account(int what) throws IllegalArgumentException {
         switch (what) {
             case 0:
                 return state.today;
@@ -484,7 +490,7 @@ public final class VisitBooking {
         }
     }
 
-    public double meanDistance() {
+    public double meanDistance() throws ArithmeticException {
         int visits = state.countStatus(BOOKED);
         if (visits == 0) {
             throw new ArithmeticException("no visits are booked");
@@ -492,7 +498,7 @@ public final class VisitBooking {
         return (double) state.sumOfDistances() / (double) visits;
     }
 
-    public float use(int week) {
+    public float use(int week) throws IllegalArgumentException, ArithmeticException {
         if (!isBelow(week, WEEKS)) {
             throw new IllegalArgumentException("the week is out of range");
         }
@@ -510,14 +516,14 @@ public final class VisitBooking {
 
     // ---- commands, undo and snapshots
 
-    public int feed(char letter) {
+    public int feed(char letter) throws IllegalStateException {
         if (text.isFull()) {
             throw new IllegalStateException("the buffer holds 80 characters");
         }
         return text.append(letter);
     }
 
-    public int perform() {
+    public int perform() throws UnsupportedOperationException {
         int error = text.findError();
         text.empty();
         if (error != NONE) {
@@ -535,7 +541,7 @@ public final class VisitBooking {
         return count;
     }
 
-    public int undo() {
+    public int undo() throws IllegalStateException {
         if (history.count == 0) {
             throw new IllegalStateException("there is no change");
         }
@@ -549,7 +555,7 @@ public final class VisitBooking {
         return state.countStatus(BOOKED);
     }
 
-    public int restore() {
+    public int restore() throws IllegalStateException {
         if (!isSaved) {
             throw new IllegalStateException("nothing was saved");
         }
