@@ -6,6 +6,7 @@ public final class BansTest {
         promise21Visitor();
         promise21Kind();
         promise21Pair();
+        promise21Distances();
         promise21Wrong();
         promise22();
         promise23();
@@ -91,6 +92,33 @@ public final class BansTest {
         x.move(0, 2);
         Check.due("21: rooms at a distance of 2", () -> x.slot(8, 1, false), 5);
         Check.due("21: far apart", () -> x.ban(2, 0, 1, 8, 8), 0);
+    }
+
+    /** Two rooms in each two wings, whoever of the pair came first, and whoever the ban names first. */
+    private static void promise21Distances() {
+        for (int k = 0; k < 64; k++) {
+            int one = k % 4;
+            int two = k / 4 % 4;
+            int first = k / 16 % 2;
+            int named = k / 32;
+            VisitBooking x = new VisitBooking();
+            x.addInmate(one, 2);
+            x.addInmate(two, 2);
+            x.addVisitor(0);
+            x.addVisitor(0);
+            x.addRoom(one, 1, true);
+            x.addRoom(two, 1, true);
+            x.book(first, 1, 0, 0);
+            x.book(1 - first, 2, 0, 0);
+            int distance = one > two ? one - two : two - one;
+            String what = "21: wings " + one + " and " + two + ", ";
+            Check.due(what + "cancelled", () -> x.ban(2, named, 1 - named, 0, 0), distance < 2 ? 1 : 0);
+            Check.due(what + "the first one stays", () -> x.visit(0, 5), 0);
+            Check.due(what + "the second one", () -> x.visit(1, 5), distance < 2 ? 2 : 0);
+            Check.due(what + "refused", () -> x.refusal(1 - first, 2, 0, 0), distance < 2 ? 6 : 4);
+            x.cancel(0);
+            Check.due(what + "free then", () -> x.refusal(1 - first, 2, 0, 0), distance < 2 ? 0 : 4);
+        }
     }
 
     private static void wrong(VisitBooking x, int kind, int inmate, int other, int first, int last, boolean isIndex) {

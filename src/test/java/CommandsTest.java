@@ -71,6 +71,8 @@ public final class CommandsTest {
         fails(x, most.toString());
         performs(x, "m0/3;m0/0;m0/3;m0/0;m0/3;m0/0;m0/3;m0/0;m0/3;m0/0;m0/3;m0/0;m0/3;m0/0;m0/3;m0/1", 16);
         Check.due("32: the last command", () -> x.inmate(0, 0), 1);
+        performs(x, "m0/2", 1);
+        Check.due("32: commands of earlier texts are over", () -> x.inmate(0, 0), 2);
         x.book(1, 4, 3, 0);
         x.book(1, 4, 3, 1);
         x.book(1, 4, 3, 2);
@@ -97,6 +99,9 @@ public final class CommandsTest {
             performs(x, text + (char) 0, -100 - text.length());
             performs(x, text + ";" + (char) ('b' + 256), -101 - text.length());
         }
+        performs(x, "b0:ab", -105);
+        performs(x, "b0:a@1", -106);
+        performs(x, "m0/0;m0/0;m0/0;m0/0;m0/0;m0/0;m0/0;m0/0;m0/0;m0/0;m0/0;m0/0;m0/0;m0/0;m0/0;b0:ab", -180);
         performs(x, "x123", -103);
         performs(x, "xa", -101);
         performs(x, "m01", -102);
@@ -190,6 +195,15 @@ public final class CommandsTest {
         Check.due("33: the one before", () -> x.undo(), 0);
         Check.due("33: no visitors", () -> x.account(6), 0);
         Check.fails("33: nothing is taken back twice", () -> x.undo(), IllegalStateException.class);
+        for (int k = 0; k < 9; k++) {
+            x.set(3, k);
+        }
+        Check.fails("33: a text that fails", () -> Check.perform(x, "m0/1;x0"), UnsupportedOperationException.class);
+        for (int k = 7; k >= 0; k--) {
+            int left = k;
+            Check.due("33: it pushes no change out", () -> x.undo(), left);
+            Check.due("33: places", () -> x.slot(0, 0, true), left);
+        }
     }
 
     private static void promise33EachChange() {
@@ -230,16 +244,14 @@ public final class CommandsTest {
         Check.due("33: the quota of level 1", () -> x.set(1, 9), 2);
     }
 
-    /** Makes a change and takes it back; all that can be seen is as before then. */
+    /** Makes a change behind another one and takes it back; all that can be seen is as between them then. */
     private static void change(VisitBooking x, String what, Check.Call call) {
+        x.set(3, 5);
         String before = Views.all(x);
-        x.set(3, 4);
         String answer = Check.outcome(call);
         Check.isTrue("33: " + what + " answers, not " + answer, !answer.startsWith("throws"));
         Check.due("33: " + what + " is a change", () -> x.undo(), 7);
         Check.due("33: " + what + " is taken back", () -> Views.all(x), before);
-        x.undo();
-        x.set(3, 4);
         x.set(3, 4);
         x.set(3, 4);
     }

@@ -211,6 +211,10 @@ public final class VisitsTest {
         refused(x, at(0, 1, 20, 0), 8, 60);
         refused(x, at(0, 1, 0, 0), 4, 0);
         Check.fails("16: 60 visits were booked", () -> x.firstFree(0, 1), NoSuchElementException.class);
+        Check.due("13: all get another room", () -> x.setOpen(0, x.addRoom(0, 1, true) == 0), 60);
+        Check.due("13: all are in it", () -> x.room(1, 4), 60);
+        x.undo();
+        x.undo();
         x.wish(0, 1, 0, 0);
         Check.due("14: none for the wish", () -> x.cancel(59), 0);
         Check.due("14: the wish stays", () -> x.account(9), 1);
