@@ -41,7 +41,9 @@ public final class BansTest {
         }
         Check.due("21: notices", () -> x.account(10), 3);
         Check.due("21: kind of notice", () -> x.notice(2, true), 1);
-        Check.due("21: all of them have notices", () -> x.notice(0, false) + x.notice(1, false) + x.notice(2, false), 5);
+        Check.due("21: the first notice", () -> x.notice(0, false), 0);
+        Check.due("21: the second notice", () -> x.notice(1, false), 1);
+        Check.due("21: the third notice", () -> x.notice(2, false), 4);
         Check.due("21: no wishes are looked at", () -> x.account(9), 1);
         Check.due("21: a ban without visits", () -> x.ban(0, 0, 0, 4, 9), 0);
         Check.due("21: two bans", () -> x.account(8), 2);

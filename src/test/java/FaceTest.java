@@ -59,7 +59,8 @@ public final class FaceTest {
         Check.isTrue("public and final", Modifier.isPublic(face.getModifiers())
                 && Modifier.isFinal(face.getModifiers()) && face.getPackageName().isEmpty());
         Constructor<?>[] constructors = face.getDeclaredConstructors();
-        Check.isTrue("one constructor", constructors.length == 1 && Modifier.isPublic(constructors[0].getModifiers()));
+        Check.isTrue("one constructor", constructors.length == 1);
+        Check.isTrue("a public one", Modifier.isPublic(constructors[0].getModifiers()));
         for (Field field : face.getDeclaredFields()) {
             Check.isTrue(field.getName() + " is private", Modifier.isPrivate(field.getModifiers()));
             Check.isTrue(field.getName() + " is no changing static field",
@@ -67,7 +68,8 @@ public final class FaceTest {
         }
         for (Method method : face.getDeclaredMethods()) {
             int kind = method.getModifiers();
-            Check.isTrue(method.getName() + " is public or private", Modifier.isPublic(kind) || Modifier.isPrivate(kind));
+            Check.isTrue(method.getName() + " is public or private",
+                    Modifier.isPublic(kind) || Modifier.isPrivate(kind));
             Check.isTrue(method.getName() + " is no public static method",
                     !Modifier.isPublic(kind) || !Modifier.isStatic(kind));
             Check.isTrue(method.getName() + " has at most 7 parameters", method.getParameterCount() <= 7);

@@ -131,8 +131,8 @@ public final class FullDeskTest {
 
     /** No call ever throws anything that the document does not name for it. */
     private static void strangeArguments(VisitBooking x) {
-        int[] odd = {Integer.MIN_VALUE, Integer.MIN_VALUE + 1, -57, -1, 0, 1, 3, 4, 5, 6, 7, 8, 9, 10, 12, 13, 20, 21, 31,
-            32, 55, 56, 60, 64, 99, 4095, 4096, 1 << 30, Integer.MAX_VALUE};
+        int[] odd = {Integer.MIN_VALUE, Integer.MIN_VALUE + 1, -57, -1, 0, 1, 3, 4, 5, 6, 7, 8, 9, 10, 12, 13, 20, 21,
+            31, 32, 55, 56, 60, 64, 99, 4095, 4096, 1 << 30, Integer.MAX_VALUE};
         for (int a : odd) {
             named("ordered", () -> x.ordered(0, a), "IndexOutOfBoundsException NoSuchElementException");
             named("next", () -> x.next(a), "NoSuchElementException");

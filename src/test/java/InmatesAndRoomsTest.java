@@ -61,6 +61,13 @@ public final class InmatesAndRoomsTest {
         Check.fails("2: an eleventh", () -> x.addInmate(0, 0), IllegalStateException.class);
         Check.fails("2: range ahead of number", () -> x.addInmate(4, 0), IllegalArgumentException.class);
         Check.due("2: 10 inmates", () -> x.account(5), 10);
+        VisitBooking y = new VisitBooking();
+        y.save();
+        y.addInmate(0, 0);
+        y.confine(0, true);
+        y.restore();
+        y.addInmate(1, 1);
+        Check.due("2: not confined, whoever was there before", () -> y.inmate(0, 2), 0);
     }
 
     private static void promise3() {
