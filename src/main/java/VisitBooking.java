@@ -30,6 +30,7 @@ public final class VisitBooking {
     private static final int MOST_SEATS = 3;
     private static final int MOST_VISITORS_AT_ONCE = 3;
     private static final int SETTINGS = 4;
+    private static final int SETTING_OF_PLACES = 3;
     private static final int HIGHEST_QUOTA = 9;
     private static final int MOST_PLACES = 12;
     private static final int LAWYER = 2;
@@ -39,6 +40,7 @@ public final class VisitBooking {
     private static final int INMATE_LEVEL = 1;
     private static final int INMATE_CONFINED = 2;
     private static final int INMATE_WIDTH = 3;
+    private static final int INMATE_BOOKED = 3;
     private static final int INMATE_NUMBERS = 5;
 
     private static final int VISITOR_KIND = 0;
@@ -229,7 +231,7 @@ public final class VisitBooking {
         if (!isBelow(what, SETTINGS)) {
             throw new IndexOutOfBoundsException("there is no such setting");
         }
-        int highest = what < LEVELS ? HIGHEST_QUOTA : MOST_PLACES;
+        int highest = what == SETTING_OF_PLACES ? MOST_PLACES : HIGHEST_QUOTA;
         if (value < 0 || value > highest) {
             throw new IllegalArgumentException("the number is out of range");
         }
@@ -249,7 +251,7 @@ public final class VisitBooking {
         if (what < INMATE_WIDTH) {
             return state.inmates.rows[inmate][what];
         }
-        if (what == INMATE_WIDTH) {
+        if (what == INMATE_BOOKED) {
             return Long.bitCount(state.bookedWith(VISIT_INMATE, inmate));
         }
         return state.countedVisits(inmate, state.today / DAYS_OF_WEEK);
@@ -1001,7 +1003,7 @@ public final class VisitBooking {
             Arrays.fill(visitOf, NONE);
             busyVisitors = 0;
             takenRooms = 0;
-            placesLeft = state.settings[SETTINGS - 1];
+            placesLeft = state.settings[SETTING_OF_PLACES];
             for (int visit = 0; visit < state.visits.count; visit++) {
                 int[] row = state.visits.rows[visit];
                 if (row[VISIT_DAY] == day && row[VISIT_SLOT] == slot && row[VISIT_STATUS] == BOOKED) {
