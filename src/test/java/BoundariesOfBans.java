@@ -54,7 +54,7 @@ final class BoundariesOfBans {
                 (x, other) -> x.ban(2, 0, other, 5, 6), INDEX);
 
         Sentence.of(21, "Makes a ban.");
-        int[][] last = {{0, 2, 3}, {1, 2, 2}, {2, 1, 2}, {2, 2, 0}};
+        int[][] last = {{0, 4, 3}, {1, 4, 2}, {2, 1, 4}, {2, 4, 0}};
         for (int[] ban : last) {
             VisitBooking x = Desks.BUSY.make();
             String what = "kind " + ban[0] + ", inmate " + ban[1] + ", other " + ban[2];
@@ -94,6 +94,9 @@ final class BoundariesOfBans {
         for (int inmate = 0; inmate < Desks.INMATES; inmate++) {
             int same = inmate;
             Sentence.refused("inmate " + same, Desks.BUSY, x -> x.ban(2, same, same, 5, 6), RANGE);
+        }
+        for (int number = 0; number <= 2; number++) {
+            int same = number;
             VisitBooking x = Desks.wide();
             Sentence.due("visitor " + same, () -> x.ban(0, same, same, 5, 6), 0);
             Sentence.due("kind " + same, () -> x.ban(1, same, same, 5, 6), 0);
@@ -280,6 +283,23 @@ final class BoundariesOfBans {
                 Sentence.due(what + ", the one with the greater number", () -> x.visit(1, 5), 2 * due);
                 Sentence.due(what + ", the other one", () -> x.visit(0, 5), 0);
             }
+        }
+        for (int wing = 0; wing < 4; wing++) {
+            VisitBooking turned = new VisitBooking();
+            turned.addInmate(wing, 2);
+            turned.addInmate(1, 2);
+            turned.addVisitor(0);
+            turned.addVisitor(0);
+            turned.addRoom(1, 1, true);
+            turned.book(1, 2, 5, 1);
+            turned.addRoom(0, 1, true);
+            turned.addRoom(0, 1, true);
+            turned.addRoom(wing, 1, true);
+            turned.setOpen(1, false);
+            turned.setOpen(2, false);
+            turned.book(0, 1, 5, 1);
+            int due = wing < 3 ? 1 : 0;
+            Sentence.due("rooms 0 and 3, wings 1 and " + wing, () -> turned.ban(2, 0, 1, 5, 5), due);
         }
         VisitBooking alone = pair(1, 1);
         alone.cancel(0);

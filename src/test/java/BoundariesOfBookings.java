@@ -135,17 +135,17 @@ final class BoundariesOfBookings {
 
     private static void firstNamedException() {
         Sentence.of(13, "If several exceptions apply, the one named first is thrown.");
-        Sentence.refused("no inmate, no set", Desks.BUSY, x -> x.book(3, 0, 5, 0), INDEX);
-        Sentence.refused("no inmate, no day", Desks.BUSY, x -> x.book(3, 1, 56, 4), INDEX);
+        Sentence.refused("no inmate, no set", Desks.BUSY, x -> x.book(Desks.INMATES, 0, 5, 0), INDEX);
+        Sentence.refused("no inmate, no day", Desks.BUSY, x -> x.book(Desks.INMATES, 1, 56, 4), INDEX);
         Sentence.refused("no set, day is over", Desks.BUSY, x -> x.book(0, 0, 0, 0), RANGE);
         Sentence.refused("no slot, day is over", Desks.BUSY, x -> x.book(0, 1, 0, 4), RANGE);
         Sentence.refused("no set, 60 visits", SIXTY_VISITS, x -> x.book(0, 8, 50, 0), RANGE);
 
         Sentence.of(15, "If several exceptions apply, the one named first is thrown.");
-        Sentence.refused("no inmate, no set", Desks.BUSY, x -> x.refusal(3, 0, 56, 4), INDEX);
+        Sentence.refused("no inmate, no set", Desks.BUSY, x -> x.refusal(Desks.INMATES, 0, 56, 4), INDEX);
 
         Sentence.of(16, "If several exceptions apply, the one named first is thrown.");
-        Sentence.refused("no inmate, no set", Desks.BUSY, x -> x.firstFree(3, 0), INDEX);
+        Sentence.refused("no inmate, no set", Desks.BUSY, x -> x.firstFree(Desks.INMATES, 0), INDEX);
         Sentence.refused("no set, no slot", SIXTY_VISITS, x -> x.firstFree(0, 8), RANGE);
     }
 
@@ -204,6 +204,18 @@ final class BoundariesOfBookings {
         Sentence.due("the last room", () -> x.visit(2, 4), 5);
         x.confine(0, true);
         Sentence.due("none of six is a glass room", () -> x.refusal(0, 4, 0, 3), 6);
+        VisitBooking y = new VisitBooking();
+        y.addInmate(0, 0);
+        y.addVisitor(2);
+        for (int room = 0; room < 6; room++) {
+            y.addRoom(0, 1, room == 5);
+        }
+        y.confine(0, true);
+        Sentence.due("the last one of six is a glass room", () -> y.visit(y.book(0, 1, 0, 0), 4), 5);
+        for (int visitor = 1; visitor < 12; visitor++) {
+            y.addVisitor(2);
+        }
+        Sentence.due("as many visitors as there can be", () -> y.visit(y.book(0, 1 << 11, 0, 1), 4), 5);
     }
 
     private static void roomChosen() {
@@ -465,6 +477,7 @@ final class BoundariesOfBookings {
         refused("visitor 3", maker, at(2, 9, 5, 1), 5, 3);
         refused("visitor 2 of 2 and 3", maker, at(2, 12, 5, 1), 5, 2);
         refused("visitor 1 of 1, 2 and 3", maker, at(2, 14, 5, 1), 5, 1);
+        refused("visitor 1 beside one who is free", maker, at(2, 3, 5, 1), 5, 1);
         booked("visitor 0", maker, at(2, 1, 5, 1));
         booked("the slot before", maker, at(2, 14, 5, 0));
         booked("where one was cancelled", maker, at(1, 3, 5, 2));
@@ -553,6 +566,11 @@ final class BoundariesOfBookings {
             return x;
         };
         refused("named the other way", turned, at(1, 2, 5, 0), 6, 1);
+        VisitBooking other = Desks.wide();
+        other.book(1, 4, 5, 0);
+        other.ban(0, 0, 1, 0, 55);
+        other.ban(1, 0, 1, 0, 55);
+        Sentence.due("a ban of a visitor or of a kind is none of a pair", () -> other.visit(other.book(0, 8, 5, 0), 4), 1);
         booked("a ban that was lifted", () -> {
             VisitBooking x = pair(1, 1);
             x.lift(0);
@@ -630,6 +648,20 @@ final class BoundariesOfBookings {
         refused("one is left", less, at(0, 6, 5, 0), 7, 1);
         booked("one is enough", less, at(0, 4, 5, 0));
         booked("another slot", less, at(0, 6, 5, 1));
+        refused("glass rooms which are too small, too close or closed", () -> {
+            VisitBooking x = withPlaces(1, false);
+            x.addInmate(0, 2);
+            x.addVisitor(2);
+            x.addRoom(3, 1, true);
+            x.book(1, 8, 5, 0);
+            x.addRoom(0, 1, true);
+            x.addRoom(2, 3, true);
+            x.addRoom(0, 3, true);
+            x.setOpen(4, false);
+            x.ban(2, 0, 1, 5, 5);
+            x.move(1, 3);
+            return x;
+        }, at(0, 3, 5, 0), 7, 1);
         refused("none but for others", () -> {
             VisitBooking x = taken.make();
             x.set(3, 0);

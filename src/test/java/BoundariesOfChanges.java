@@ -99,15 +99,26 @@ final class BoundariesOfChanges {
         Sentence.fails("none", () -> x.undo(), STATE);
     }
 
-    /** Changes made and taken back by turns, beside a list of the settings that they had made. */
+    /**
+     * Changes made and taken back by turns, beside a list of the settings that were there ahead of them. At 0 the desk
+     * is saved and restored, and a text fails ahead of each turn.
+     */
     private static void ringOfChanges() {
         Sentence.of(33, "The 8 latest changes are kept");
-        int[] turns = {3, -2, 9, -4, 1, 1, -8, 5, -3, 12, -8, 8, -8, 7, -7, 9, -1, 1, -8};
+        int[] turns = {3, -2, 9, -4, 1, 1, -8, 5, -3, 12, -8, 8, -8, 7, -7, 0, 9, -1, 1, -8, 3, 0, 8, -9, 5, 0, 10, -9};
         VisitBooking x = new VisitBooking();
+        x.save();
+        x.restore();
         List<Integer> kept = new ArrayList<>();
         int places = 4;
         int made = 0;
         for (int turn : turns) {
+            Check.outcome(() -> Check.perform(x, "x0"));
+            if (turn == 0) {
+                x.save();
+                x.restore();
+                kept.clear();
+            }
             for (int k = 0; k < Math.abs(turn); k++) {
                 if (turn > 0) {
                     kept.add(places);
@@ -230,7 +241,7 @@ final class BoundariesOfChanges {
         Sentence.due("what was fed stays", () -> y.perform() * 10 + y.inmate(0, 0), 13);
         VisitBooking z = Desks.BUSY.make();
         z.undo();
-        Sentence.due("what was saved stays", () -> z.restore(), 2);
+        Sentence.due("what was saved stays", () -> z.restore(), 4);
     }
 
     // ---- promises 34 and 35
@@ -266,7 +277,7 @@ final class BoundariesOfChanges {
         VisitBooking x = Desks.BUSY.make();
         String view = Views.brief(x);
         String report = Whole.reportOf(x);
-        Sentence.due("two visits", () -> x.save(), 2);
+        Sentence.due("four visits", () -> x.save(), 4);
         Sentence.due("nothing else is different", () -> Views.brief(x), view);
         Sentence.due("the report stays", () -> Whole.reportOf(x), report);
         Sentence.due("the buffer stays", () -> x.feed('/'), 3);
@@ -313,7 +324,7 @@ final class BoundariesOfChanges {
             int number = k;
             Sentence.isTrue("act " + k, !Check.outcome(() -> acts[number].on(x)).startsWith("throws")
                     || k == acts.length - 1);
-            Sentence.due("behind act " + k, () -> x.restore(), 2);
+            Sentence.due("behind act " + k, () -> x.restore(), 4);
             Sentence.due("all is as it was, " + k, () -> Views.brief(x), view);
         }
         int[] settings = {1, 5, 3, 6};
@@ -328,7 +339,7 @@ final class BoundariesOfChanges {
         }
 
         Sentence.of(35, "Returns the number of booked visits.");
-        Sentence.due("of what was saved", () -> x.pass(20) * 10 + x.restore(), 22);
+        Sentence.due("of what was saved", () -> x.pass(20) * 10 + x.restore(), 44);
         VisitBooking y = Desks.withRoom();
         Desks.bookLawyer(y, 60, 0);
         y.save();

@@ -318,7 +318,7 @@ final class BoundariesOfInmates {
 
     private static void inmateNumbers() {
         Sentence.of(10, "- `what`: 0 the wing; 1 the level; 2 whether the inmate is confined to glass (1) or not (0)");
-        int[][] numbers = {{0, 2, 0, 1, 1}, {2, 1, 0, 1, 1}, {3, 1, 1, 0, 0}};
+        int[][] numbers = {{0, 2, 0, 1, 1}, {2, 1, 0, 1, 1}, {3, 1, 1, 0, 0}, {2, 2, 0, 2, 1}, {0, 1, 0, 0, 0}};
         for (int inmate = 0; inmate < Desks.INMATES; inmate++) {
             for (int what = 0; what <= 4; what++) {
                 int i = inmate;

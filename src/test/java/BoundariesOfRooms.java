@@ -193,6 +193,14 @@ final class BoundariesOfRooms {
         Sentence.due("of kind 2", () -> x.notice(3, true), 2);
         Sentence.due("the room that it had last", () -> x.visit(1, 4), 1);
         Sentence.due("its places are free", () -> x.slot(0, 0, true), 1);
+
+        Sentence.of(5, "and no wishes are looked at when one of them is cancelled.");
+        VisitBooking y = Desks.withRoom();
+        y.addRoom(0, 1, true);
+        y.book(0, 3, 0, 0);
+        y.wish(0, 4, 0, 0);
+        Sentence.due("one is cancelled", () -> y.setOpen(0, false) + y.account(4), 2);
+        Sentence.due("the wish waits", () -> y.account(9), 1);
     }
 
     private static void openingKeepsRooms() {
@@ -420,7 +428,7 @@ final class BoundariesOfRooms {
         Sentence.refused("no room, no number", Desks.BUSY, x -> x.room(Desks.ROOMS, 5), INDEX);
 
         Sentence.of(11, "- `what`: 0 the wing; 1 the seats; 2 whether it is a glass room (1) or not (0)");
-        int[][] numbers = {{0, 2, 0, 1, 1}, {2, 3, 1, 1, 1}, {3, 1, 0, 1, 0}};
+        int[][] numbers = {{0, 2, 0, 1, 1}, {2, 3, 1, 1, 3}, {3, 1, 0, 1, 0}};
         for (int room = 0; room < Desks.ROOMS; room++) {
             for (int what = 0; what <= 4; what++) {
                 int r = room;
@@ -436,9 +444,9 @@ final class BoundariesOfRooms {
 
         Sentence.of(11, "Returns the number.");
         x.pass(2);
-        Sentence.due("on the day of the visit", () -> x.room(1, 4), 1);
+        Sentence.due("on the day of the visit", () -> x.room(1, 4), 3);
         x.pass(1);
-        Sentence.due("on the next day", () -> x.room(1, 4), 0);
+        Sentence.due("on the next day", () -> x.room(1, 4), 2);
         x.cancel(3);
         Sentence.due("a cancelled one", () -> x.room(0, 4), 0);
     }

@@ -395,7 +395,7 @@ final class BoundariesOfTexts {
     private static void allOrNone() {
         Sentence.of(32, "all of them or none.");
         String[] right = {"b0:b@5.3;", "x1;", "m0/3;", "m1/0;", "x3;x1;", "b2:a@9.0;m2/0;"};
-        String[] wrong = {"x0", "x9", "m3/0", "b3:a@5.3", "b0:e@5.3"};
+        String[] wrong = {"x0", "x9", "m5/0", "b5:a@5.3", "b0:e@5.3"};
         for (String first : right) {
             for (String last : wrong) {
                 Sentence.refused(first + last, Desks.QUIET, x -> Check.perform(x, first + last), UNSUPPORTED);
@@ -461,8 +461,8 @@ final class BoundariesOfTexts {
 
     private static void otherExceptions() {
         Sentence.of(32, "Throws `UnsupportedOperationException` if the text is correct, and one of the methods throws");
-        String[] texts = {"b3:a@5.3", "b9:a@5.3", "b0:e@5.3", "b0:l@5.3", "b0:ade@5.3", "b0:a@56.3", "b0:a@99.3",
-            "b0:a@5.4", "b0:a@5.9", "b9:l@99.9", "x4", "x04", "x60", "x99", "x0", "x2", "m3/0", "m9/0", "m0/4", "m0/9",
+        String[] texts = {"b5:a@5.3", "b9:a@5.3", "b0:e@5.3", "b0:l@5.3", "b0:ade@5.3", "b0:a@56.3", "b0:a@99.3",
+            "b0:a@5.4", "b0:a@5.9", "b9:l@99.9", "x6", "x06", "x60", "x99", "x0", "x2", "m5/0", "m9/0", "m0/4", "m0/9",
             "m9/9", "x1;x1", "b0:e@0.0", "b0:a@0.4"};
         for (String text : texts) {
             Sentence.refused(text, Desks.QUIET, x -> Check.perform(x, text), UNSUPPORTED);

@@ -151,7 +151,7 @@ final class BoundariesOfVisits {
     private static void visitNumbers() {
         Sentence.of(17, "- `what`: 0 the inmate; 1 the set of visitors; 2 the day; 3 the slot; 4 the room");
         int[][] numbers = {{0, 1, 0, 0, 0, 1, 1, 1}, {1, 2, 3, 1, 1, 0, 0, 1}, {0, 3, 4, 2, 0, 2, 0, 1},
-            {0, 4, 4, 3, 0, 0, 1, 0}};
+            {0, 4, 4, 3, 0, 0, 1, 0}, {3, 1, 6, 1, 1, 0, 0, 1}, {3, 2, 8, 3, 1, 0, 0, 1}};
         for (int visit = 0; visit < Desks.VISITS; visit++) {
             for (int what = 0; what <= 7; what++) {
                 int v = visit;
@@ -235,12 +235,13 @@ final class BoundariesOfVisits {
 
     private static void nextPlaces() {
         Sentence.of(18, "Throws `NoSuchElementException` if there is no such place");
-        Sentence.refused("place", Desks.BUSY, Sentence.outside(0, 1), (x, place) -> x.next(place), ELEMENT);
+        Sentence.refused("place", Desks.BUSY, Sentence.outside(0, 3), (x, place) -> x.next(place), ELEMENT);
         Sentence.refused("no visits", Desks.EMPTY, x -> x.next(0), ELEMENT);
 
         Sentence.of(18, "- `place`: the place, from 0");
         Sentence.reads("the first one", Desks.BUSY, x -> x.next(0), 1);
-        Sentence.reads("the last one", Desks.BUSY, x -> x.next(1), 3);
+        Sentence.reads("the second one", Desks.BUSY, x -> x.next(1), 3);
+        Sentence.reads("the last one", Desks.BUSY, x -> x.next(3), 5);
 
         Sentence.of(18, "Returns the visit.");
         VisitBooking x = Desks.withRoom();

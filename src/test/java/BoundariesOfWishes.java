@@ -59,6 +59,7 @@ final class BoundariesOfWishes {
             Sentence.due("set " + set, () -> x.wish(0, set, 5, 6), Desks.WISHES + 1);
             Sentence.due("it has it", () -> x.wished(Desks.WISHES, 1), set);
         }
+        Sentence.due("the last inmate", () -> Desks.BUSY.make().wish(Desks.INMATES - 1, 1, 5, 6), Desks.WISHES + 1);
 
         Sentence.of(24, "If several exceptions apply, the one named first is thrown.");
         Sentence.refused("no inmate, no set", Desks.BUSY, x -> x.wish(Desks.INMATES, 0, 5, 6), INDEX);
@@ -157,6 +158,8 @@ final class BoundariesOfWishes {
         int[] moments = {20, 21, 22, 32};
         for (int k = 0; k < 4; k++) {
             int visit = 11 + k;
+            int inmate = k < 3 ? 0 : 2;
+            Sentence.due("inmate of wish " + k, () -> x.visit(visit, 0), inmate);
             Sentence.due("wish " + k, () -> x.visit(visit, 2) * 4 + x.visit(visit, 3), moments[k]);
         }
         VisitBooking y = Desks.withRoom();
@@ -373,7 +376,7 @@ final class BoundariesOfWishes {
         }
 
         Sentence.of(28, "- `what`: 0 the present day; 1 the visits that were ever booked; 2 the booked ones; 3 the held ones");
-        int[] accounts = {Desks.TODAY, 4, 2, 1, 1, 3, 4, 3, 2, 2, 1, 1, 0};
+        int[] accounts = {Desks.TODAY, 6, 4, 1, 1, 5, 4, 3, 2, 2, 1, 1, 0};
         for (int what = 0; what <= 12; what++) {
             int account = what;
             Sentence.reads("account " + what, Desks.BUSY, x -> x.account(account), accounts[account]);
@@ -419,7 +422,7 @@ final class BoundariesOfWishes {
         Sentence.refused("none ever", Desks.EMPTY, x -> x.meanDistance(), ARITHMETIC);
         Sentence.refused("held and cancelled ones", () -> {
             VisitBooking x = Desks.BUSY.make();
-            x.pass(4);
+            x.pass(8);
             return x;
         }, x -> x.meanDistance(), ARITHMETIC);
 

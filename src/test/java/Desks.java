@@ -1,10 +1,10 @@
 /** Desks that the boundary tests begin with. */
 final class Desks {
     /** The numbers of a busy desk. */
-    static final int INMATES = 3;
+    static final int INMATES = 5;
     static final int VISITORS = 4;
     static final int ROOMS = 3;
-    static final int VISITS = 4;
+    static final int VISITS = 6;
     static final int BANS = 2;
     static final int WISHES = 2;
     static final int NOTICES = 1;
@@ -30,13 +30,16 @@ final class Desks {
 
     /**
      * Day 1. Visits: 0 held, 1 of inmate 1 with visitor 1 on day 3 in slot 1, 2 cancelled, 3 of inmate 0 with visitor 2
-     * on day 4 in slot 3. More changes than are kept, something saved, and a report.
+     * on day 4 in slot 3, 4 of inmate 3 with visitor 0 on day 6 in slot 1, 5 of inmate 3 with visitor 1 on day 8 in
+     * slot 3. More changes than are kept, something saved, and a report.
      */
     private static VisitBooking quiet() {
         VisitBooking x = new VisitBooking();
         x.addInmate(0, 2);
         x.addInmate(1, 1);
         x.addInmate(3, 0);
+        x.addInmate(2, 2);
+        x.addInmate(0, 1);
         x.addVisitor(0);
         x.addVisitor(1);
         x.addVisitor(2);
@@ -48,6 +51,8 @@ final class Desks {
         x.book(1, 2, 3, 1);
         x.book(0, 3, 4, 2);
         x.book(0, 4, 4, 3);
+        x.book(3, 1, 6, 1);
+        x.book(3, 2, 8, 3);
         x.cancel(2);
         x.pass(1);
         x.ban(0, 0, 3, 10, 12);
