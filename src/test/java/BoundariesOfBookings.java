@@ -291,6 +291,20 @@ final class BoundariesOfBookings {
 
         Sentence.of(13, "a visit in such a room takes one place for each of its visitors");
         Sentence.due("places with the second one", () -> x.slot(0, 1, true), 2);
+        int[] sets = {1, 2, 4, 3, 6, 7};
+        for (int set : sets) {
+            for (int glass = 0; glass <= 1; glass++) {
+                VisitBooking y = Desks.small();
+                y.addRoom(2, 3, glass == 1);
+                y.book(0, set, 5, 0);
+                int taken = glass == 1 ? 0 : Integer.bitCount(set);
+                Sentence.due("set " + set + ", glass " + glass, () -> y.visit(0, 6), taken);
+                Sentence.due("places that are left", () -> y.slot(5, 0, true), 4 - taken);
+                Sentence.due("places that are taken", () -> y.account(11), taken);
+                y.cancel(0);
+                Sentence.due("none when it is cancelled", () -> y.account(11), 0);
+            }
+        }
     }
 
     // ---- reasons for refusals
@@ -779,6 +793,11 @@ final class BoundariesOfBookings {
 
         Sentence.of(15, "Returns the reason, 0 if it would not be refused.");
         Sentence.due("it is booked", () -> x.book(0, 1, 1, 0) + x.refusal(0, 1, 1, 0), 4);
+        Sentence.due("the last slot", () -> x.refusal(0, 1, 55, 3), 0);
+        Sentence.due("it is booked", () -> x.book(0, 1, 55, 3), 1);
+        Sentence.due("the last slot again", () -> x.refusal(0, 2, 55, 3), 4);
+        x.cancel(1);
+        Sentence.due("it is cancelled", () -> x.refusal(0, 1, 55, 3), 0);
     }
 
     // ---- the first free slot

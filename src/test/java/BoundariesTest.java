@@ -12,7 +12,7 @@ public final class BoundariesTest {
         BoundariesOfWishes.all();
         BoundariesOfTexts.all();
         BoundariesOfChanges.all();
-        Sentence.end();
+        Sentence.end(args.length > 0);
         Check.end();
     }
 

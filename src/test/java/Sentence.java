@@ -1,8 +1,9 @@
+import java.util.ArrayList;
 import java.util.HashMap;
-import java.util.HashSet;
 import java.util.List;
 import java.util.Map;
 import java.util.Set;
+import java.util.TreeMap;
 
 /**
  * What the boundary tests are about: a promise and words of the document. All sentences of the document must have
@@ -15,9 +16,11 @@ final class Sentence {
             "Reports.", "Texts.", "Details.", "A text of commands has the form", "The class is not thread-safe.");
 
     private static final Document DOCUMENT = new Document();
-    private static final Set<String> HAD = new HashSet<>();
+    /** How much each sentence was asked. */
+    private static final Map<String, Integer> HAD = new TreeMap<>();
     private static final Map<Whole.Maker, Whole> BEFORE = new HashMap<>();
     private static String label = "";
+    private static final List<String> NOW = new ArrayList<>();
     private static int asked = 1;
 
     private Sentence() {
@@ -28,16 +31,26 @@ final class Sentence {
         isAsked();
         label = "promise " + promise + ", \"" + words + "\": ";
         asked = 0;
-        boolean isFound = false;
+        NOW.clear();
         for (int section : new int[] {promise, Document.TERMS}) {
             for (String sentence : DOCUMENT.of(section)) {
                 if (sentence.contains(words)) {
-                    HAD.add(section + sentence);
-                    isFound = true;
+                    NOW.add(nameOf(section, sentence));
                 }
             }
         }
-        Check.isTrue(label + "is in the document", isFound);
+        Check.isTrue(label + "is in the document", !NOW.isEmpty());
+    }
+
+    private static String nameOf(int section, String sentence) {
+        return (section == Document.TERMS ? "terms" : "promise " + section) + ", " + sentence;
+    }
+
+    private static void ask() {
+        asked++;
+        for (String sentence : NOW) {
+            HAD.merge(sentence, 1, Integer::sum);
+        }
     }
 
     private static void isAsked() {
@@ -45,17 +58,17 @@ final class Sentence {
     }
 
     static void due(String what, Check.Call call, Object want) {
-        asked++;
+        ask();
         Check.due(label + what, call, want);
     }
 
     static void isTrue(String what, boolean holds) {
-        asked++;
+        ask();
         Check.isTrue(label + what, holds);
     }
 
     static void fails(String what, Check.Call call, Class<? extends RuntimeException> want) {
-        asked++;
+        ask();
         Check.fails(label + what, call, want);
     }
 
@@ -118,13 +131,16 @@ final class Sentence {
         return new int[] {least - 1, most + 1, Integer.MIN_VALUE, Integer.MAX_VALUE};
     }
 
-    static void end() {
+    static void end(boolean isTold) {
         isAsked();
+        if (isTold) {
+            HAD.forEach((sentence, count) -> System.out.println(count + " answers: " + sentence));
+        }
         for (int section = Document.TERMS; section <= Document.PROMISES; section++) {
             Check.isTrue("the document has sentences of " + section, !DOCUMENT.of(section).isEmpty());
             for (String sentence : DOCUMENT.of(section)) {
-                Check.isTrue("nothing asks for promise " + section + ": " + sentence,
-                        NO_SENTENCES.contains(sentence) || HAD.contains(section + sentence));
+                Check.isTrue("something asks for " + nameOf(section, sentence),
+                        NO_SENTENCES.contains(sentence) || HAD.containsKey(nameOf(section, sentence)));
             }
         }
     }
