@@ -4,10 +4,29 @@ final class Check {
         Object run();
     }
 
+    private static final long MOST_MILLISECONDS = 600_000L;
+
     private static int wrong = 0;
     private static int asked = 0;
 
+    static {
+        Thread watch = new Thread(Check::haltInTheEnd);
+        watch.setDaemon(true);
+        watch.start();
+    }
+
     private Check() {
+    }
+
+    /** A call that fails to end must fail the test, too. */
+    private static void haltInTheEnd() {
+        try {
+            Thread.sleep(MOST_MILLISECONDS);
+        } catch (InterruptedException e) {
+            return;
+        }
+        System.out.println("the test does not end");
+        Runtime.getRuntime().halt(1);
     }
 
     static void due(String what, Call call, Object want) {
